@@ -594,7 +594,7 @@ public final class NineOpinions {
      * from NAMES on a NAME, below 0 a sign.
      */
     private static final class Law {
-        static final int STEPS = 128, NAMES = 10000, UNLIKELIEST = 99;
+        static final int STEPS = 128, NAMES = 10000, MOST_MINDED = 99;
         static final char NEGATE = '~';
 
         private final int[] steps = new int[STEPS];
@@ -608,65 +608,63 @@ public final class NineOpinions {
             length = made;
         }
 
-        /** How much one MINDS a MATTER, by all that the NAMES tell. */
-        int mindedBy(int off, int standing, int matter, int worn, int many, int view) {
-            if (length == 0) {
-                return off;
-            }
+        /** What the NAMES are worth from here on. */
+        void hear(int off, int standing, int matter, int worn, int many, int view) {
             names[0] = off;
             names[1] = standing;
             names[2] = matter;
             names[3] = worn;
             names[4] = many;
             names[5] = view;
-            return Math.max(0, Math.min(UNLIKELIEST, firstThatCounts()));
         }
 
-        private int firstThatCounts() {
+        /** How much one MINDS what the NAMES tell. */
+        int worth() {
+            if (length == 0) {
+                return names[0];
+            }
             top = 0;
             boolean passing = false;
             for (int at = 0; at < length; at++) {
                 int step = steps[at];
                 if (passing) {
                     passing = step != -';';
+                } else if (step >= 0) {
+                    push(step < NAMES ? step : names[step - NAMES]);
                 } else if (step == -';') {
-                    return pop();
+                    return Math.max(0, Math.min(MOST_MINDED, pop()));
                 } else if (step == -'?') {
                     passing = pop() == 0;
                 } else {
-                    work(step);
+                    push(worked(-step, pop()));
                 }
             }
             return 0;
         }
 
-        private void work(int step) {
-            if (step >= NAMES) {
-                push(names[step - NAMES]);
-            } else if (step >= 0) {
-                push(step);
-            } else if (step == -'!') {
-                push(truth(pop() == 0));
-            } else if (step == -NEGATE) {
-                push(-pop());
-            } else {
-                int right = pop();
-                push(joined(pop(), -step, right));
+        private int worked(int sign, int right) {
+            switch (sign) {
+                case '!':
+                    return right == 0 ? 1 : 0;
+                case NEGATE:
+                    return -right;
+                default:
+                    return joined(pop(), sign, right);
             }
         }
 
         private static int joined(int left, int sign, int right) {
             switch (sign) {
                 case '|':
-                    return truth(left != 0 || right != 0);
+                    return left != 0 || right != 0 ? 1 : 0;
                 case '&':
-                    return truth(left != 0 && right != 0);
+                    return left != 0 && right != 0 ? 1 : 0;
                 case '<':
-                    return truth(left < right);
+                    return left < right ? 1 : 0;
                 case '=':
-                    return truth(left == right);
+                    return left == right ? 1 : 0;
                 case '>':
-                    return truth(left > right);
+                    return left > right ? 1 : 0;
                 case '+':
                     return left + right;
                 case '-':
@@ -678,10 +676,6 @@ public final class NineOpinions {
                 default:
                     return right == 0 ? 0 : left % right;
             }
-        }
-
-        private static int truth(boolean so) {
-            return so ? 1 : 0;
         }
 
         private void push(int value) {
@@ -865,7 +859,7 @@ public final class NineOpinions {
      * states, and whole boards are sums.
      */
     private static final class Thought {
-        private static final int STATES = 256, UNKNOWN = VOID, NOBODY_NEAR = -1;
+        private static final int STATES = 256, UNKNOWN = VOID, NONE_NEAR = -1;
 
         private final Town town;
         private final Law law;
@@ -895,47 +889,45 @@ public final class NineOpinions {
         }
 
         int onMatter(int matter, int lines, int kept) {
-            return ofState(matter, viewsOn(lines, matter), viewsOn(lines & kept, matter));
-        }
-
-        private int ofState(int matter, int standing, int old) {
-            int place = STATES * matter + 16 * standing + old;
+            int place = placeOf(matter, lines, kept);
             if (weighed[place] == UNKNOWN) {
-                weighed[place] = weigh(matter, standing, old);
+                weighed[place] = weigh(matter, viewsOn(lines, matter), viewsOn(lines & kept, matter));
             }
             return weighed[place];
+        }
+
+        private static int placeOf(int matter, int lines, int kept) {
+            return STATES * matter + 16 * viewsOn(lines, matter) + viewsOn(lines & kept, matter);
         }
 
         private int weigh(int matter, int standing, int old) {
             int sum = 0;
             for (int one = 0; one < town.people; one++) {
                 int sign = bit(added, one) - bit(taken, one);
-                sum += sign == 0 ? 0 : sign * minded(one, matter, standing, old);
+                if (sign != 0) {
+                    tellLaw(one, matter, standing, old);
+                    sum += sign * law.worth();
+                }
             }
             return sum;
         }
 
-        private int minded(int one, int matter, int standing, int old) {
+        private void tellLaw(int one, int matter, int standing, int old) {
             int view = viewIn(town.beliefs[one], matter);
             int near = nearest(view, standing);
-            int off = near == NOBODY_NEAR ? VIEWS : Math.abs(near - view);
-            boolean isOld = near != NOBODY_NEAR && bit(old, near) == 1;
+            int off = near == NONE_NEAR ? VIEWS : Math.abs(near - view);
+            boolean isOld = near != NONE_NEAR && bit(old, near) == 1;
             int worn = isOld ? town.worn[VIEWS * matter + near] : 0;
-            return law.mindedBy(off, town.standings[one], matter, worn, Integer.bitCount(standing), view);
+            law.hear(off, town.standings[one], matter, worn, Integer.bitCount(standing), view);
         }
 
         private static int nearest(int view, int standing) {
-            int found = NOBODY_NEAR;
+            int found = NONE_NEAR;
             for (int other = 0; other < VIEWS; other++) {
-                boolean nearer = found == NOBODY_NEAR || Math.abs(other - view) < Math.abs(found - view);
+                boolean nearer = found == NONE_NEAR || Math.abs(other - view) < Math.abs(found - view);
                 found = nearer && bit(standing, other) == 1 ? other : found;
             }
             return found;
-        }
-
-        /** How much all MIND on a board that is made from the one now at one go. */
-        private int allOn(int lines) {
-            return inAll(lines, town.lines);
         }
 
         private void beginWithAll() {
@@ -944,12 +936,12 @@ public final class NineOpinions {
 
         int ifChanged(int line) {
             beginWithAll();
-            return allOn(town.lines ^ 1 << line);
+            return inAll(town.lines ^ 1 << line, town.lines);
         }
 
         int withInsteadOf(int line, int struck) {
             beginWithAll();
-            return allOn((town.lines ^ 1 << struck) | 1 << line);
+            return inAll((town.lines ^ 1 << struck) | 1 << line, town.lines);
         }
 
         int bestStruckFor(int line) {
@@ -958,7 +950,7 @@ public final class NineOpinions {
             int bestSum = 0;
             for (int struck = 0; struck < LINES && !town.stands(line); struck++) {
                 if (town.stands(struck)) {
-                    int sum = allOn((town.lines ^ 1 << struck) | 1 << line);
+                    int sum = inAll((town.lines ^ 1 << struck) | 1 << line, town.lines);
                     if (best == NO_LINE || sum < bestSum) {
                         best = struck;
                         bestSum = sum;
@@ -971,10 +963,10 @@ public final class NineOpinions {
         int bestChange() {
             beginWithAll();
             int best = NO_LINE;
-            int bestSum = allOn(town.lines);
+            int bestSum = inAll(town.lines, town.lines);
             for (int line = 0; line < LINES; line++) {
                 if (town.stands(line) || town.hasRoom()) {
-                    int sum = allOn(town.lines ^ 1 << line);
+                    int sum = inAll(town.lines ^ 1 << line, town.lines);
                     if (sum < bestSum) {
                         best = line;
                         bestSum = sum;
@@ -985,13 +977,13 @@ public final class NineOpinions {
         }
 
         int leastOfBoards() {
-            sumUpLeast();
+            weighAllBoards();
             return leastOf(MATTERS, town.room);
         }
 
         /** From the highest MATTER down the least VIEWS that reach the least sum: so the number is the least. */
         int nearestBoard() {
-            sumUpLeast();
+            weighAllBoards();
             int lines = 0;
             int room = town.room;
             for (int matter = MATTERS - 1; matter >= 0; matter--) {
@@ -1002,9 +994,18 @@ public final class NineOpinions {
             return lines;
         }
 
+        private void weighAllBoards() {
+            beginWithAll();
+            for (int matter = 0; matter < MATTERS; matter++) {
+                for (int standing = 0; standing < 16; standing++) {
+                    onMatter(matter, standing << VIEWS * matter, town.lines);
+                }
+            }
+            sumUpLeast();
+        }
+
         /** What the first so many MATTERS weigh at least with so many LINES at most, for all such numbers. */
         private void sumUpLeast() {
-            beginWithAll();
             for (int room = 0; room <= MOST_ROOM; room++) {
                 least[room] = 0;
             }
@@ -1028,8 +1029,8 @@ public final class NineOpinions {
         }
 
         private int leastWith(int matter, int standing, int room) {
-            int old = viewsOn(town.lines, matter) & standing;
-            return ofState(matter, standing, old) + leastOf(matter, room - Integer.bitCount(standing));
+            int place = placeOf(matter, standing << VIEWS * matter, town.lines);
+            return weighed[place] + leastOf(matter, room - Integer.bitCount(standing));
         }
 
         private int leastOf(int matters, int room) {
@@ -1087,7 +1088,11 @@ public final class NineOpinions {
             int found = 0;
             for (int line = 0; line <= LINES; line++) {
                 if (line == LINES || hasRoom || bit(lines, line) == 1) {
-                    int end = behind(line, left, lines, kept, weight);
+                    // nothing is no stroke on any MATTER: it gains 0 wherever it is looked for
+                    int then = line == LINES ? lines : lines ^ 1 << line;
+                    int matter = line / VIEWS % MATTERS;
+                    int gain = thought.onMatter(matter, then, kept & then) - thought.onMatter(matter, lines, kept);
+                    int end = best(left - 1, then, kept & then, weight + gain);
                     if (change == NO_LINE || (wantsLeast ? end < found : end > found)) {
                         change = line;
                         found = end;
@@ -1098,16 +1103,6 @@ public final class NineOpinions {
                 bestFirst = change;
             }
             return found;
-        }
-
-        private int behind(int line, int left, int lines, int kept, int weight) {
-            if (line == LINES) {
-                return best(left - 1, lines, kept, weight);
-            }
-            int matter = line / VIEWS;
-            int then = lines ^ 1 << line;
-            int gain = thought.onMatter(matter, then, kept & then) - thought.onMatter(matter, lines, kept);
-            return best(left - 1, then, kept & then, weight + gain);
         }
     }
 
