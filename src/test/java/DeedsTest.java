@@ -11,6 +11,7 @@ public final class DeedsTest {
         undoing();
         deedsAreNoChanges();
         fortyAreKept();
+        theLatestFortyAreKept();
         Check.end("DeedsTest");
     }
 
@@ -184,5 +185,35 @@ public final class DeedsTest {
         }
         Check.due(32, "BELIEF", x.of(0, 0), 45);
         Check.due(32, "none", x.redo(), STATE);
+    }
+
+    /** Changes of unlike numbers by turns: each is kept with its own. */
+    private static void theLatestFortyAreKept() {
+        NineOpinions x = Say.town(0, 0);
+        for (int i = 0; i < 43; i++) {
+            mendByTurns(x, i, i / 4 % 8 + 1);
+        }
+        for (int i = 42; i >= 3; i--) {
+            x.undo();
+            Check.due(31, "undone " + i, numberOf(x, i), i < 4 ? numberAtFirst(i) : (i - 4) / 4 % 8 + 1);
+        }
+        for (int i = 3; i < 43; i++) {
+            x.redo();
+            Check.due(32, "done again " + i, numberOf(x, i), i / 4 % 8 + 1);
+        }
+    }
+
+    private static int numberAtFirst(int i) {
+        return i % 4 == 3 ? 9 : 0;
+    }
+
+    private static void mendByTurns(NineOpinions x, int i, int v) {
+        int[] numbers = {1, 0, 13, 0};
+        x.mend(numbers[i % 4], i % 4, v);
+    }
+
+    private static int numberOf(NineOpinions x, int i) {
+        int[] numbers = {1, 0, 13, 0};
+        return x.of(numbers[i % 4], i % 4);
     }
 }

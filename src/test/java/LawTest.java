@@ -34,7 +34,7 @@ public final class LawTest {
             "d", "0", "9999", "0000", "d;s", "d?s", "d?s;m?w;k", "d|s|m", "d&s&m", "d<s", "d=s", "d>s", "d+s-m+w",
             "d*s/m%w", "!d", "-d", "(d)", "!!!!!!d", "------d", "((((((d))))))", "!(-(!(d)))", "d--s", "d-!s",
             "(d<s)<m", "d<s|m>w&k=v", "(d|s)*(m&w)", "!!!!!!d+!!!!!!s", "((((((d))))))*((((((s))))))", "d*-1",
-            "d<s?m<w;k",
+            "d<s?m<w;k", "((((((d))))))?((((((s))))));((((((m))))))", "!!!!!!d?!!!!!!s",
         };
         for (String text : good) {
             Check.due(7, "law of " + text, Say.law(new NineOpinions(), text), 1);
@@ -46,6 +46,7 @@ public final class LawTest {
             {"(((((((d", 6}, {"((((((-d", 6}, {"((((((d--s", 8}, {"(!(-(!(d", 6}, {"+d", 0}, {"d++s", 2}, {";d", 0},
             {"?d", 0}, {"d;;s", 2}, {"d&&s", 2}, {"d*/s", 2}, {"D", 0}, {"d<=s", 2}, {"!!!!!!(d)", 6}, {"d;s;x", 4},
             {"((d)", 4}, {"d?(s", 4}, {"d?;s", 2},
+            {"d?!!!!!!!s", 8}, {"d;!!!!!!!s", 8},
         };
         for (Object[] pair : bad) {
             Check.due(7, "law of " + pair[0], Say.law(new NineOpinions(), (String) pair[0]), -100 - (Integer) pair[1]);

@@ -29,6 +29,7 @@ public final class ShelvesTest {
         Check.due(36, "BAD changes nothing", x.taken(5, 0), 3);
         x.row(5, 0, 1);
         Check.due(36, "a ROW instead", x.put(5, 0, 1), 1);
+        Check.due(36, "the VIEW is there no more", x.taken(5, 0), -12);
         Check.due(36, "a VIEW instead", x.keep(5, 0), 1);
         Check.due(36, "no ROW is there", x.put(5, 0, 1), -12);
         Check.due(36, "nothing instead", x.keep(5, -1), 1);

@@ -5,6 +5,8 @@ public final class ThoughtTest {
     public static void main(String[] args) {
         minding();
         changing();
+        eachCallThinksAnew();
+        costThinksAnew();
         nearest();
         nearestOfLikeOnes();
         cost();
@@ -61,6 +63,51 @@ public final class ThoughtTest {
         Check.due(9, "it is WORN 0", x.ifLine(0), 0);
         Check.due(9, "those that stand stay WORN", x.ifLine(2), 5);
         Check.due(9, "none is WORN", x.ifLine(1), 0);
+    }
+
+    /** What was thought ahead of a change counts no more behind it. */
+    private static void eachCallThinksAnew() {
+        NineOpinions x = Say.town(0);
+        Check.due(9, "ifLine(0)", x.ifLine(0), 20);
+        x.mend(0, 0, 1);
+        Check.due(9, "behind a change of BELIEF", x.ifLine(0), 21);
+        x.write(1);
+        Check.due(9, "behind a deed", x.ifLine(0), 20);
+        x.mend(1, 2, 6);
+        Say.law(x, "w+1");
+        Check.due(9, "behind a LAW", x.ifLine(0), 12);
+        x.mend(1, 2, 5);
+        Check.due(9, "behind a change of WORN", x.ifLine(4), 11);
+        Check.due(11, "cost(0, 1)", x.cost(0, 1), 6);
+        x.mend(0, 0, 0);
+        Check.due(12, "helps(1)", x.helps(1), 6);
+        x.write(0);
+        Check.due(12, "nothing helps", x.helps(1), NOT);
+        Check.due(10, "board(1)", x.board(1), 6);
+        x.person(0);
+        Check.due(10, "behind one who came", x.board(1), 12);
+        Check.due(8, "minds(1, 6)", x.minds(1, 6), 6);
+        Check.due(8, "minds(8, 6)", x.minds(8, 6), 12);
+        x.mend(1, 0, 1);
+        Check.due(16, "of one who MINDS more", x.byTurns(11, 0), -5);
+        Check.due(23, "a day of no ROOM", roomForNone(x).drawn(0, 101, -1), 12);
+    }
+
+    private static void costThinksAnew() {
+        NineOpinions x = Say.written(Say.town(0), 1, 5);
+        Check.due(11, "of like ones the least", x.cost(8, 0), 1);
+        x.mend(0, 0, 1);
+        Check.due(11, "behind a change of BELIEF", x.cost(8, 0), 5);
+        x.mend(0, 0, 4);
+        Check.due(11, "behind another one", x.cost(8, 0), 1);
+    }
+
+    private static NineOpinions roomForNone(NineOpinions x) {
+        x.strike(0);
+        x.strike(1);
+        x.write(23);
+        x.mend(0, 3, 1);
+        return x;
     }
 
     private static void nearest() {
