@@ -1582,7 +1582,7 @@ public final class NineOpinions {
             for (int two = 0; two < twos(row); two++) {
                 int line = lineOf(row, two);
                 boolean ofMatter = line != NO_LINE && line / VIEWS == matter;
-                so &= !ofMatter || isSo(row, two, view);
+                so = so && (!ofMatter || isSo(row, two, view));
             }
             return so;
         }
