@@ -54,7 +54,7 @@ public final class NineOpinions {
     }
 
     public int people(int shelf, int i, int n) {
-        if (!isShelf(shelf) || i < 0 || n < 1 || n > MOST_PEOPLE) {
+        if (!isShelf(shelf) || n < 1 || n > MOST_PEOPLE) {
             return BAD;
         }
         Shelf row = shelves[shelf];
@@ -427,7 +427,7 @@ public final class NineOpinions {
 
     // ---- what several calls need
 
-    /** Whether one of PEOPLE comes from the two at a place of a ROW of shorts. */
+    /** Whether one of PEOPLE comes from the two at a place of a ROW of shorts: nobody does where no place is. */
     private boolean comes(Shelf row, int place) {
         if (town.isFull() || !row.hasPlaces(place, 2)) {
             return false;

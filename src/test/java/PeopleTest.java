@@ -6,6 +6,7 @@ public final class PeopleTest {
         persons();
         peopleFromRows();
         wherePeopleEnd();
+        placesThatAreNotThere();
         mending();
         telling();
         Check.end("PeopleTest");
@@ -34,7 +35,6 @@ public final class PeopleTest {
         Check.due(3, "people(-1, 0, 1)", x.people(-1, 0, 1), BAD);
         Check.due(3, "people(0, 0, 0)", x.people(0, 0, 0), BAD);
         Check.due(3, "people(0, 0, 9)", x.people(0, 0, 9), BAD);
-        Check.due(3, "people(0, -1, 1)", x.people(0, -1, 1), BAD);
         Check.due(3, "nobody came yet", x.count(0), 0);
         Check.due(3, "people(0, 1, 2)", x.people(0, 1, 2), 2);
         Check.due(3, "BELIEF of 0", x.of(0, 0), 100);
@@ -72,6 +72,29 @@ public final class PeopleTest {
         Check.due(3, "until PEOPLE are FULL", x.people(0, 0, 8), 6);
         Check.due(3, "PEOPLE are FULL", x.people(0, 0, 8), 0);
         Check.due(3, "eight came", x.count(0), 8);
+    }
+
+    /** A place has no range: nobody comes from one that is not there, and what else is refused is refused at it, too. */
+    private static void placesThatAreNotThere() {
+        NineOpinions x = new NineOpinions();
+        Say.row(x, 0, 1, 1, 1, 2, 1, 3, 1);
+        x.row(1, 1, 0);
+        x.row(2, 2, 6);
+        x.keep(3, x.body(0));
+        int[] places = {Integer.MIN_VALUE, Integer.MIN_VALUE + 1, -60, -3, -2, -1, 6, 7, 60, Integer.MAX_VALUE};
+        for (int i : places) {
+            Check.due(3, "of a ROW, from " + i, x.people(0, i, 8), 0);
+            Check.due(3, "one of a ROW, from " + i, x.people(0, i, 1), 0);
+            Check.due(3, "of a ROW of none, from " + i, x.people(1, i, 3), 0);
+            Check.due(3, "of nothing, from " + i, x.people(5, i, 3), 0);
+            Check.due(3, "of ints, from " + i, x.people(2, i, 3), -12);
+            Check.due(3, "of a VIEW, from " + i, x.people(3, i, 3), -12);
+            Check.due(3, "none of nothing, from " + i, x.people(5, i, 0), BAD);
+            Check.due(3, "nine of ints, from " + i, x.people(2, i, 9), BAD);
+            Check.due(3, "on no SHELF, from " + i, x.people(6, i, 3), BAD);
+        }
+        Check.due(3, "nobody came", x.count(0), 0);
+        Check.due(3, "from the last place there is", x.people(0, 4, 8), 1);
     }
 
     private static void mending() {
