@@ -213,12 +213,12 @@ public final class ActsTest {
     }
 
     private static void sameAsJavasOwnKinds() {
-        NineOpinions town = new NineOpinions();
         int[] xs = {0, 1, -1, 77, Integer.MAX_VALUE, Integer.MIN_VALUE, 1431655765};
-        for (int n = 0; n < 48; n++) {
-            town.body((n * 5 + n / 8) % 8);
-            View view = ofKind((n * 5 + n / 8) % 8, n);
-            for (int x : xs) {
+        for (int x : xs) {
+            NineOpinions town = new NineOpinions();
+            for (int n = 0; n < 48; n++) {
+                town.body((n * 5 + n / 8) % 8);
+                View view = ofKind((n * 5 + n / 8) % 8, n);
                 String call = "(" + n + ", .., " + x + ")";
                 Check.due(34, "holds" + call, town.act(n, HOLDS, x), view.holds(x));
                 Check.due(34, "minds" + call, town.act(n, MINDS, x), view.minds(x));

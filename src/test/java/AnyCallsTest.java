@@ -8,12 +8,13 @@ public final class AnyCallsTest {
         50, 59, 60, 61, 96, 100, 101, 102, 103, 119, 120, 121, 255, 256, 301, 3030, 3131, 4095, 4096, 65536,
         Integer.MAX_VALUE - 1, Integer.MAX_VALUE,
     };
-    private static final int FIRST = 2, LAST = 42;
+    /** A step is some calls, where it feeds: with those of told() no object is used for more than 512. */
+    private static final int FIRST = 2, LAST = 42, STEPS = 320;
     private static long state;
 
     public static void main(String[] args) {
         for (int run = 0; run < 400; run++) {
-            twice(run);
+            threeTimes(run);
         }
         Check.end("AnyCallsTest");
     }
@@ -27,29 +28,30 @@ public final class AnyCallsTest {
         return draw(8) == 0 ? ODD[draw(ODD.length)] : draw(below);
     }
 
-    private static void twice(int run) {
+    /** A run of calls, the same once more, and once more without those that were refused: all answer alike. */
+    private static void threeTimes(int run) {
         NineOpinions x = new NineOpinions();
-        NineOpinions y = new NineOpinions();
-        for (int i = 0; i < 500; i++) {
+        NineOpinions again = new NineOpinions();
+        NineOpinions without = new NineOpinions();
+        for (int i = 0; i < STEPS; i++) {
             state = run * 1000003L + i;
             draw(2);
             int promise = FIRST + draw(LAST - FIRST + 1);
             long before = state;
             long answer = call(x, promise);
             state = before;
-            Check.due(promise, "run " + run + ", call " + i + ", once more", call(y, promise), answer);
-            if (answer < 0 && isRefusal(promise, answer)) {
+            Check.due(promise, "run " + run + ", call " + i + ", once more", call(again, promise), answer);
+            if (!isRefusal(promise, answer)) {
                 state = before;
-                Check.due(promise, "run " + run + ", call " + i + ", refused twice", call(x, promise), answer);
-                int told = told(x);
-                Check.due(promise, "run " + run + ", call " + i + " changed nothing", told, told(y));
+                Check.due(promise, "run " + run + ", call " + i + ", without the refused", call(without, promise), answer);
             }
         }
+        Check.due(1, "run " + run + ", what there is, without the refused", told(without), told(x));
     }
 
     private static boolean isRefusal(int promise, long answer) {
         boolean worksOut = promise == 6 || promise == 7 || promise == 16 || promise == 34 || promise == 39;
-        return !worksOut && (answer >= -5 || answer >= -14 && answer <= -11);
+        return !worksOut && (answer < 0 && answer >= -5 || answer <= -11 && answer >= -14);
     }
 
     private static int told(NineOpinions x) {

@@ -48,9 +48,9 @@ public final class ShelvesTest {
         Check.due(37, "nothing is there yet", x.put(0, 0, 1), -11);
         for (int sort = 0; sort <= 4; sort++) {
             Check.due(37, "row(sort, sort, 60)", x.row(sort, sort, 60), 1);
-            for (int i = 0; i < 60; i++) {
+            for (int i = 0; i < 60; i += 2) {
                 Check.due(37, "0 at first", x.element(sort, i), 0);
-                x.put(sort, i, -1);
+                x.put(sort, i + 1, -1);
             }
         }
         Check.due(37, "a ROW anew", x.row(3, 3, 60), 1);
