@@ -21,6 +21,9 @@ public final class FaceTest {
         methods();
         constants();
         String source = Files.readString(Path.of("src/main/java/NineOpinions.java"));
+        String document = Files.readString(Path.of("../shared/DOC.md"));
+        asTheDocumentHasIt(document, source);
+        groups(document, source);
         words(withoutTexts(source));
         calls(withoutTexts(source));
         sizes(withoutTexts(source));
@@ -65,6 +68,36 @@ public final class FaceTest {
         Check.due(1, "FULL", NineOpinions.FULL, -3);
         Check.due(1, "STATE", NineOpinions.STATE, -5);
         Check.due(1, "VOID", NineOpinions.VOID, -2000000000);
+    }
+
+    /** Each line of the document's face stands in the source, with the names that its arguments have there. */
+    private static void asTheDocumentHasIt(String document, String source) {
+        int from = document.indexOf("```java\n") + 8;
+        String[] face = document.substring(from, document.indexOf("```", from)).split("\n");
+        Check.so(1, "the document has a face", face.length > 40);
+        for (String line : face) {
+            String due = line.endsWith(");") ? line.substring(0, line.length() - 1) + " {" : line;
+            Check.so(1, "a line of the face: " + due, source.contains("\n" + due + "\n"));
+        }
+    }
+
+    /** Between what the document says ahead of some calls and the next such words stand those calls, no others. */
+    private static void groups(String document, String source) {
+        Matcher group = Pattern.compile("Ahead of the calls (.*) the interface says: (---- .*)\\.").matcher(document);
+        int many = 0;
+        while (group.find()) {
+            int from = source.indexOf("    // " + group.group(2) + "\n");
+            Check.so(1, "the source says " + group.group(2), from >= 0);
+            int end = source.indexOf("    // ----", from + 10);
+            Matcher call = Pattern.compile("\n    public \\w+ (\\w+)\\(").matcher(source.substring(Math.max(0, from), end));
+            StringBuilder found = new StringBuilder();
+            while (call.find()) {
+                found.append(found.length() == 0 ? "" : ", ").append('`').append(call.group(1)).append('`');
+            }
+            Check.so(1, "calls under " + group.group(2) + ": " + found, found.toString().equals(group.group(1)));
+            many++;
+        }
+        Check.due(1, "groups", many, 5);
     }
 
     /** The source without comments and without what stands within quotes. */
